@@ -1,0 +1,71 @@
+/** Promises 4, 5 and 6: add, change and drop. */
+public final class LinesTest {
+    private static final int[] NO_MODULES = {-1, 4, Integer.MIN_VALUE, Integer.MAX_VALUE};
+
+    public static void main(String[] args) {
+        adding();
+        changing();
+        dropping();
+        Check.finish();
+    }
+
+    private static void adding() {
+        ThumbLinker x = new ThumbLinker();
+        for (int m = 0; m < 4; m++) {
+            for (int k = 1; k <= 24; k++) {
+                Check.type(x, "nop");
+                Check.due("add(" + m + ")", x.add(m), k);
+                Check.due("what is typed then", x.erase(), 0);
+            }
+            int full = m;
+            Check.type(x, "abc");
+            Check.thrown("add of a 25th", Check.STATE, () -> x.add(full));
+            Check.due("what is typed after a throw", x.erase(), 3);
+        }
+        Check.type(x, "abcd");
+        for (int m : NO_MODULES) {
+            Check.thrown("add(" + m + ")", Check.ARGUMENT, () -> x.add(m));
+        }
+        Check.due("what is typed after throws", x.erase(), 4);
+        Check.due("lines after throws", x.drop(0), 24);
+        Check.due("add of an empty line", x.add(0), 1);
+    }
+
+    private static void changing() {
+        ThumbLinker x = Check.with(".global main", "main: foo", "nop");
+        Check.fault(x, "before", ThumbLinker.SIGN, 0, 1, 6);
+        Check.type(x, "main: nop");
+        for (int m : NO_MODULES) {
+            Check.thrown("change(" + m + ", 0)", Check.ARGUMENT, () -> x.change(m, 0));
+        }
+        Check.thrown("change(1, 0)", Check.ARGUMENT, () -> x.change(1, 0));
+        Check.thrown("change(0, 3)", Check.ARGUMENT, () -> x.change(0, 3));
+        Check.thrown("change(0, -1)", Check.ARGUMENT, () -> x.change(0, -1));
+        Check.thrown("change(0, MIN)", Check.ARGUMENT, () -> x.change(0, Integer.MIN_VALUE));
+        Check.due("typed after throws", x.type(0, 0, 0, 0), 9);
+        x.change(0, 1);
+        Check.due("typed after change", x.erase(), 0);
+        Check.linked(x, "after", 12);
+        x.change(0, 2);
+        Check.linked(x, "a line made empty", 10);
+        Check.due("lines", x.drop(0), 3);
+        Check.thrown("change of a dropped line", Check.ARGUMENT, () -> x.change(0, 0));
+    }
+
+    private static void dropping() {
+        ThumbLinker x = Check.with("main: nop", ".global main");
+        Check.add(x, 3, "nop");
+        for (int m : NO_MODULES) {
+            Check.thrown("drop(" + m + ")", Check.ARGUMENT, () -> x.drop(m));
+        }
+        Check.linked(x, "both", 14);
+        Check.type(x, "nop");
+        Check.due("drop(3)", x.drop(3), 1);
+        Check.due("drop(3) again", x.drop(3), 0);
+        Check.due("drop keeps what is typed", x.erase(), 3);
+        Check.due("the image stays until the next link", x.octet(13), 0xBF);
+        Check.linked(x, "one", 10);
+        Check.due("add after drop", x.add(3), 1);
+        Check.linked(x, "the line dropped is not there again", 10);
+    }
+}
