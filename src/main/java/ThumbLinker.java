@@ -1101,7 +1101,7 @@ public final class ThumbLinker {
                 return FAR;
             }
             if (s.reach == Statement.CALL) {
-                writeCall(place, distance >> 1);
+                writeCall(place, s.number, distance >> 1);
             } else {
                 image.putHalf(place, s.number + distanceBits(s.reach, distance));
             }
@@ -1137,11 +1137,11 @@ public final class ThumbLinker {
             }
         }
 
-        private void writeCall(int place, int half) {
+        private void writeCall(int place, int code, int half) {
             int s = half >> 23 & 1;
             int i = half >> 22 & 1;
             int j = half >> 21 & 1;
-            image.putHalf(place, 0xF000 + 0x400 * s + (half >> 11 & 0x3FF));
+            image.putHalf(place, code + 0x400 * s + (half >> 11 & 0x3FF));
             image.putHalf(place + 2, 0xD000 + (i == s ? 0x2000 : 0) + (j == s ? 0x800 : 0) + (half & 0x7FF));
         }
     }

@@ -85,7 +85,7 @@ final class Check {
     static String bytes(ThumbLinker x, int from, int to) {
         StringBuilder all = new StringBuilder();
         for (int k = from; k < to; k++) {
-            all.append(String.format("%02X", x.octet(k)));
+            all.append(x.octet(k) < 0 ? "--" : String.format("%02X", x.octet(k)));
         }
         return all.toString();
     }

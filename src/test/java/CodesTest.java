@@ -68,6 +68,11 @@ public final class CodesTest {
         range("movs r0,#256", 9);
         range("movs r0,#-1", 9);
         range("movs r0,# - 9999", 10);
+        code("cmp r0,#0", 0x2800);
+        code("adds r0,#0", 0x3000);
+        code("subs r0,#0", 0x3800);
+        code("adds r0,r0,#0", 0x1C00);
+        code("subs r0,r0,#0", 0x1E00);
         range("cmp r0,#256", 8);
         range("adds r0,#256", 9);
         range("subs r0,#256", 9);

@@ -5,6 +5,7 @@ public final class LinesTest {
     public static void main(String[] args) {
         adding();
         changing();
+        changingKinds();
         dropping();
         Check.finish();
     }
@@ -48,8 +49,41 @@ public final class LinesTest {
         Check.linked(x, "after", 12);
         x.change(0, 2);
         Check.linked(x, "a line made empty", 10);
+        x.change(0, 0);
+        Check.fault(x, "line 0 made empty", ThumbLinker.UNKNOWN, -1, -1, -1);
         Check.due("lines", x.drop(0), 3);
         Check.thrown("change of a dropped line", Check.ARGUMENT, () -> x.change(0, 0));
+    }
+
+    /** Nothing of what a line said before may be left when it says something else. */
+    private static void changingKinds() {
+        String[] lines = {"b main", ".word main+5", ".word main", ".word 7", "nop", "", ".global main", "ldr r1,[r2,#4]",
+            ".space 3", ".align", "x: nop", "bx lr", ".byte 9", ".data", "x:", "foo", "movs r1,#256"};
+        for (String before : lines) {
+            for (String after : lines) {
+                ThumbLinker changed = Check.with(before, ".text", ".align", "main: nop", ".align", ".word 0");
+                changed.link();
+                Check.type(changed, after);
+                changed.change(0, 0);
+                ThumbLinker fresh = Check.with(after, ".text", ".align", "main: nop", ".align", ".word 0");
+                Check.add(changed, 1, "main: nop");
+                Check.add(fresh, 1, "main: nop");
+                same(changed, fresh, before + " changed to " + after);
+                Check.add(changed, 0, ".global main");
+                Check.add(fresh, 0, ".global main");
+                same(changed, fresh, before + " changed to " + after + ", main told");
+            }
+        }
+    }
+
+    private static void same(ThumbLinker changed, ThumbLinker fresh, String what) {
+        int length = fresh.link();
+        Check.due(what, changed.link(), length);
+        for (int k = 0; k < 3; k++) {
+            Check.due(what + ": fault(" + k + ")", changed.fault(k), fresh.fault(k));
+        }
+        // After a fault the changed one still has the image of its first link.
+        Check.due(what, Check.bytes(changed, 0, length), Check.bytes(fresh, 0, length));
     }
 
     private static void dropping() {

@@ -15,6 +15,7 @@ public final class LinkingTest {
         calls();
         literals();
         faultKeepsAll();
+        oldBytesAreGone();
         Check.finish();
     }
 
@@ -210,6 +211,17 @@ public final class LinkingTest {
         Check.add(x, 0, lines);
         int got = x.link();
         Check.due(String.join(" / ", lines), got < 0 ? got : Check.half(x, place), want);
+    }
+
+    private static void oldBytesAreGone() {
+        ThumbLinker x = Check.with("main: .byte 1", ".global main", ".byte 2", ".byte 3", ".byte 4", ".data", ".byte 5");
+        for (int k = 0; k < 3; k++) {
+            Check.linked(x, "bytes", 13);
+        }
+        x.drop(0);
+        Check.add(x, 0, "main: .space 1", ".global main", ".data", ".space 2");
+        Check.linked(x, "spaces", 14);
+        Check.due("spaces", Check.bytes(x, 8, 14), "000000000000");
     }
 
     private static void faultKeepsAll() {
