@@ -1,7 +1,5 @@
 /** Promises 8 to 12: fault, octet, hex, address and size. */
 public final class AnswersTest {
-    private static final int[] NO_MODULES = {-1, 4, Integer.MIN_VALUE, Integer.MAX_VALUE};
-
     public static void main(String[] args) {
         faults();
         octets();
@@ -87,7 +85,7 @@ public final class AnswersTest {
         }
         Check.due("address of 48 characters", Check.address(x, 0, "mainmainmainmainmainmainmainmainmainmainmainmain"),
             -1);
-        for (int m : NO_MODULES) {
+        for (int m : Check.NO_MODULES) {
             Check.thrown("address(" + m + ")", Check.ARGUMENT, () -> x.address(m));
         }
         x.drop(0);
@@ -110,7 +108,7 @@ public final class AnswersTest {
                 Check.due("size(" + m + ", " + what + ")", x.size(m, what), want[m][what]);
             }
         }
-        for (int m : NO_MODULES) {
+        for (int m : Check.NO_MODULES) {
             Check.thrown("size(" + m + ", 0)", Check.ARGUMENT, () -> x.size(m, 0));
         }
         for (int what : new int[] {-1, 3, Integer.MIN_VALUE, Integer.MAX_VALUE}) {

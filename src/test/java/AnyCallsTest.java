@@ -8,9 +8,10 @@ public final class AnyCallsTest {
     private static long seed = 1;
 
     public static void main(String[] args) {
-        for (int run = 0; run < 400; run++) {
-            ThumbLinker x = new ThumbLinker();
-            for (int k = 0; k < 512; k++) {
+        for (int run = 0; run < 3000; run++) {
+            ThumbLinker x = Check.with("main: nop", ".global main");
+            // A round makes eleven calls at most, and an object answers 512.
+            for (int k = 0; k < 46; k++) {
                 int call = k;
                 int before = x.octet(8);
                 int length = length(x);

@@ -5,14 +5,22 @@ final class Check {
     static final int STATE = 2;
     static final int OTHER = 3;
 
+    static final int[] NO_MODULES = {-1, 4, Integer.MIN_VALUE, Integer.MAX_VALUE};
+
     private static final int MOST_TOLD = 40;
     private static int wrong = 0;
+    private static String sentence = "";
 
     interface Call {
         void run();
     }
 
     private Check() {
+    }
+
+    /** Names the words of the document that the checks from here on hold the class to. */
+    static void sentence(String words) {
+        sentence = "[" + words + "] ";
     }
 
     static void due(String what, long got, long want) {
@@ -23,7 +31,7 @@ final class Check {
         if (!got.equals(want)) {
             wrong++;
             if (wrong <= MOST_TOLD) {
-                System.out.println(what + " answered " + got + ", due is " + want);
+                System.out.println(sentence + what + " answered " + got + ", due is " + want);
             }
         }
     }
@@ -68,6 +76,28 @@ final class Check {
         ThumbLinker x = new ThumbLinker();
         add(x, 0, lines);
         return x;
+    }
+
+    /** An object whose module 0 has main, then this line as line 2, then a word that it may refer to. */
+    static ThumbLinker around(String line) {
+        return with("main:", ".global main", line, ".align", "tail: .word 0");
+    }
+
+    /** A line that no fault is told of: the code that it gives, or the first two bytes. */
+    static int within(String line) {
+        ThumbLinker x = around(line);
+        int length = x.link();
+        due("'" + line + "' links (0 if it does)", length < 0 ? length : 0, 0);
+        due("'" + line + "' fault(1)", x.fault(1), ThumbLinker.NONE);
+        return half(x, 8);
+    }
+
+    static void code(String line, int want) {
+        due("code of '" + line + "'", Integer.toHexString(within(line)), Integer.toHexString(want));
+    }
+
+    static void outside(String line, int kind, int place) {
+        fault(around(line), "'" + line + "'", kind, 0, 2, place);
     }
 
     static void fault(ThumbLinker x, String what, int kind, int module, int line, int place) {

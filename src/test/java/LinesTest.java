@@ -1,7 +1,5 @@
 /** Promises 4, 5 and 6: add, change and drop. */
 public final class LinesTest {
-    private static final int[] NO_MODULES = {-1, 4, Integer.MIN_VALUE, Integer.MAX_VALUE};
-
     public static void main(String[] args) {
         adding();
         changing();
@@ -24,7 +22,7 @@ public final class LinesTest {
             Check.due("what is typed after a throw", x.erase(), 3);
         }
         Check.type(x, "abcd");
-        for (int m : NO_MODULES) {
+        for (int m : Check.NO_MODULES) {
             Check.thrown("add(" + m + ")", Check.ARGUMENT, () -> x.add(m));
         }
         Check.due("what is typed after throws", x.erase(), 4);
@@ -36,7 +34,7 @@ public final class LinesTest {
         ThumbLinker x = Check.with(".global main", "main: foo", "nop");
         Check.fault(x, "before", ThumbLinker.SIGN, 0, 1, 6);
         Check.type(x, "main: nop");
-        for (int m : NO_MODULES) {
+        for (int m : Check.NO_MODULES) {
             Check.thrown("change(" + m + ", 0)", Check.ARGUMENT, () -> x.change(m, 0));
         }
         Check.thrown("change(1, 0)", Check.ARGUMENT, () -> x.change(1, 0));
@@ -89,7 +87,7 @@ public final class LinesTest {
     private static void dropping() {
         ThumbLinker x = Check.with("main: nop", ".global main");
         Check.add(x, 3, "nop");
-        for (int m : NO_MODULES) {
+        for (int m : Check.NO_MODULES) {
             Check.thrown("drop(" + m + ")", Check.ARGUMENT, () -> x.drop(m));
         }
         Check.linked(x, "both", 14);
