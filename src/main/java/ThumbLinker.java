@@ -546,7 +546,9 @@ public final class ThumbLinker {
         }
 
         void expect(char sign) {
-            if (!accept(sign)) {
+            if (sees(sign)) {
+                step();
+            } else {
                 fail(SIGN, start);
             }
         }
@@ -562,7 +564,7 @@ public final class ThumbLinker {
         }
 
         long name() {
-            long name = seenName();
+            long name = line.nameBetween(start, end);
             if (name == 0) {
                 fail(SIGN, start);
             } else {
